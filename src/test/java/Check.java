@@ -1,0 +1,58 @@
+/** What the tests share: each answer that is not due is printed, and counted. */
+final class Check {
+    static final Class<?> INDEX = IndexOutOfBoundsException.class;
+    static final Class<?> ARGUMENT = IllegalArgumentException.class;
+    static final Class<?> STATE = IllegalStateException.class;
+
+    private static int checks = 0;
+    private static int wrong = 0;
+
+    private Check() {
+    }
+
+    static void due(String call, long got, long want) {
+        checks++;
+        if (got != want) {
+            tell(call + " answered " + got + ", due is " + want);
+        }
+    }
+
+    static void dueMean(String call, double got, double want) {
+        checks++;
+        if (got != want) {
+            tell(call + " answered " + got + ", due is " + want);
+        }
+    }
+
+    /** The call throws just this class, and changes nothing that the digest tells. */
+    static void refused(CannonStacks x, String call, Class<?> want, Runnable run) {
+        long before = x.digest();
+        Class<?> got = thrownBy(run);
+        checks++;
+        if (got != want) {
+            tell(call + " threw " + got + ", due is " + want);
+        }
+        due(call + ": digest behind it", x.digest(), before);
+    }
+
+    static Class<?> thrownBy(Runnable run) {
+        try {
+            run.run();
+            return null;
+        } catch (RuntimeException e) {
+            return e.getClass();
+        }
+    }
+
+    static void tell(String fault) {
+        wrong++;
+        System.out.println(fault);
+    }
+
+    static void end() {
+        System.out.println(checks + " checks, " + wrong + " wrong");
+        if (wrong != 0 || checks == 0) {
+            System.exit(1);
+        }
+    }
+}
