@@ -18,6 +18,7 @@ public final class DaysTest {
         advise();
         mean();
         digest();
+        greatestBastion();
         Check.end();
     }
 
@@ -174,6 +175,12 @@ public final class DaysTest {
         Check.due("24: foresee(3, 5)", x.foresee(3, 5), 16);
         Check.due("24: foresee(5, 6)", x.foresee(5, 6), 0);
         Check.due("24: nothing is changed", x.digest(), before);
+        x.pass(1);
+        Check.due("24: cats go on from where they are", x.foresee(1, 5), 17);
+        x.fire(1, 7);
+        Check.due("24: foresee(1, 4), the last one of pile 1 rolls off", x.foresee(1, 4), 2);
+        x.fire(1, 1);
+        Check.due("24: foresee(1, 4), none is left of pile 1", x.foresee(1, 4), 1);
         Check.due("24: without piles", new CannonStacks().foresee(30, 5), 0);
     }
 
@@ -246,6 +253,38 @@ public final class DaysTest {
         Check.dueMean("27: two of six", x.mean(), 2.0 / 6.0);
         x.pass(4);
         Check.dueMean("27: ten of six", x.mean(), 10.0 / 6.0);
+    }
+
+    private static void greatestBastion() {
+        CannonStacks x = new CannonStacks();
+        for (int i = 0; i < 6; i++) {
+            x.pile(i % 5, 6);
+            x.give(i % 5, 91);
+            x.stack(i, 91);
+        }
+        for (int leap = 1; leap <= 3; leap++) {
+            x.cat(leap);
+        }
+        x.setRain(2);
+        x.setLimit(9);
+        Check.due("22: full layers alone", x.pass(2), 0);
+        Check.due("23: until", x.until(5), 1);
+        Check.due("24: foresee(1, 6)", x.foresee(1, 6), 6);
+        Check.due("26: none rusty", x.advise(), -1);
+        Check.dueMean("27: mean", x.mean(), (6 * 6 + 540 * 2) / 546.0);
+        Check.due("28: digest", x.digest(), digestByHand(x));
+        x.pass(60);
+        Check.dueMean("27: mean of all", x.mean(), 9.0);
+        Check.due("26: all rusty", x.advise(), 0);
+        Check.due("25: would", x.would(5), 0);
+        Check.due("9: scour", x.scour(4), 3);
+        Check.due("8: fire", x.fire(3, 91), 819);
+        Check.due("11: shift", x.shift(0, 5), 0);
+        Check.due("10: inspect", x.inspect(5), 91);
+        Check.due("11: shift", x.shift(0, 5), 91);
+        Check.due("10: inspect of the scoured one", x.inspect(4), 90);
+        Check.due("10: the one that is left", x.ball(4, 0, 0), 6);
+        Check.due("28: digest", x.digest(), digestByHand(x));
     }
 
     private static void digest() {

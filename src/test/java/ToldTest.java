@@ -11,6 +11,7 @@ public final class ToldTest {
         layersAndBareBalls();
         ball();
         ballsOnBalls();
+        ballsOfTheGreatestPile();
         at();
         told();
         mouser();
@@ -118,6 +119,28 @@ public final class ToldTest {
         }
     }
 
+    private static void ballsOfTheGreatestPile() {
+        CannonStacks x = new CannonStacks();
+        x.give(0, 99);
+        x.pile(0, 6);
+        x.stack(0, 91);
+        int ball = 0;
+        for (int layer = 0; layer < 6; layer++) {
+            for (int row = 0; row < 6 - layer; row++) {
+                for (int place = 0; place < 6 - layer; place++) {
+                    Check.due("15: layer of " + ball + " of 91", x.ball(0, ball, 1), layer);
+                    Check.due("15: row of " + ball + " of 91", x.ball(0, ball, 2), row);
+                    Check.due("15: place of " + ball + " of 91", x.ball(0, ball, 3), place);
+                    Check.due("16: at, " + ball + " of 91", x.at(0, layer, row, place), ball);
+                    ball++;
+                }
+            }
+        }
+        Check.refused(x, "15: ball(0, 91, 0)", Check.INDEX, () -> x.ball(0, 91, 0));
+        x.pass(1);
+        dueAbout(x, "the greatest", 0, 0, 6, 91, 91, 6, 6, 1, 0, 1, 1);
+    }
+
     private static void at() {
         CannonStacks x = new CannonStacks();
         Check.refused(x, "16: at(0, 0, 0, 0) without piles", Check.INDEX, () -> x.at(0, 0, 0, 0));
@@ -178,6 +201,8 @@ public final class ToldTest {
             Check.due("17: told(2, " + what + ")", x.told(2, what), want2[what]);
             Check.due("17: told(0, " + what + ")", x.told(0, what), 0);
         }
+        x.stack(0, 3);
+        Check.due("17: told(1, 2) of two piles", x.told(1, 2), 10);
     }
 
     private static void mouser() {
