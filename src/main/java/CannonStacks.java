@@ -224,7 +224,7 @@ public final class CannonStacks {
         if (isOutside(place, 0, width - 1)) {
             throw new IndexOutOfBoundsException("there is no such place");
         }
-        int ball = Pyramid.numberOf(told.pyramid.edge, layer, row, place);
+        int ball = told.pyramid.numberOf(layer, row, place);
         return ball < told.balls ? ball : NONE;
     }
 
@@ -418,20 +418,27 @@ public final class CannonStacks {
     private static final class Pyramid {
         final int edge;
         final int capacity;
+        // The number of the first ball of each layer, and behind the last layer the capacity.
+        private final int[] starts;
         // Of those that lie on a ball in a full pyramid, the least number: balls come and go by
         // their numbers, so a ball is covered just as long as that one is there. The last ball's
         // is the capacity, a number that no ball has.
-        private final int[] firstOn;
+        private final int[] coverers;
 
         Pyramid(int edge) {
             this.edge = edge;
             capacity = squares(edge);
-            firstOn = new int[capacity];
+            starts = new int[edge + 1];
+            for (int layer = 0; layer <= edge; layer++) {
+                starts[layer] = capacity - squares(edge - layer);
+            }
+            coverers = new int[capacity];
             for (int layer = 0; layer < edge; layer++) {
-                for (int row = 0; row < edge - layer; row++) {
-                    for (int place = 0; place < edge - layer; place++) {
-                        firstOn[numberOf(edge, layer, row, place)] =
-                            numberOf(edge, layer + 1, Math.max(row - 1, 0), Math.max(place - 1, 0));
+                int width = edge - layer;
+                for (int row = 0; row < width; row++) {
+                    for (int place = 0; place < width; place++) {
+                        coverers[starts[layer] + row * width + place] =
+                            starts[layer + 1] + Math.max(row - 1, 0) * (width - 1) + Math.max(place - 1, 0);
                     }
                 }
             }
@@ -441,21 +448,21 @@ public final class CannonStacks {
             return most * (most + 1) * (2 * most + 1) / 6;
         }
 
-        static int numberOf(int edge, int layer, int row, int place) {
-            return startOf(edge, layer) + row * (edge - layer) + place;
+        int numberOf(int layer, int row, int place) {
+            return startOf(layer) + row * (edge - layer) + place;
         }
 
-        private static int startOf(int edge, int layer) {
-            return squares(edge) - squares(edge - layer);
+        private int startOf(int layer) {
+            return layer >= 0 && layer < starts.length ? starts[layer] : capacity;
         }
 
         int firstOn(int ball) {
-            return ball >= 0 && ball < firstOn.length ? firstOn[ball] : capacity;
+            return ball >= 0 && ball < coverers.length ? coverers[ball] : capacity;
         }
 
         int layersBegun(int balls) {
             int layers = 0;
-            while (layers < edge && startOf(edge, layers) < balls) {
+            while (layers < edge && starts[layers] < balls) {
                 layers++;
             }
             return layers;
@@ -463,24 +470,27 @@ public final class CannonStacks {
 
         int layersFull(int balls) {
             int layers = 0;
-            while (layers < edge && startOf(edge, layers + 1) <= balls) {
+            while (layers < edge && starts[layers + 1] <= balls) {
                 layers++;
             }
             return layers;
         }
 
+        // The balls before a ball fill just the layers below its own.
         int layerOf(int ball) {
             return layersFull(ball);
         }
 
         int rowOf(int ball) {
-            int width = edge - layerOf(ball);
-            return width > 0 ? (ball - startOf(edge, layerOf(ball))) / width : 0;
+            int layer = layerOf(ball);
+            int width = edge - layer;
+            return width > 0 ? (ball - startOf(layer)) / width : 0;
         }
 
         int placeOf(int ball) {
-            int width = edge - layerOf(ball);
-            return width > 0 ? (ball - startOf(edge, layerOf(ball))) % width : 0;
+            int layer = layerOf(ball);
+            int width = edge - layer;
+            return width > 0 ? (ball - startOf(layer)) % width : 0;
         }
     }
 
@@ -544,7 +554,7 @@ public final class CannonStacks {
             int many = 0;
             for (int r = Math.max(row - 1, 0); r <= Math.min(row, last); r++) {
                 for (int p = Math.max(place - 1, 0); p <= Math.min(place, last); p++) {
-                    if (Pyramid.numberOf(pyramid.edge, layer, r, p) < balls) {
+                    if (pyramid.numberOf(layer, r, p) < balls) {
                         many++;
                     }
                 }

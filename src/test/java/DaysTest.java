@@ -181,6 +181,7 @@ public final class DaysTest {
         Check.due("24: foresee(1, 4), the last one of pile 1 rolls off", x.foresee(1, 4), 2);
         x.fire(1, 1);
         Check.due("24: foresee(1, 4), none is left of pile 1", x.foresee(1, 4), 1);
+        Check.due("24: foresee(1, 4) again, from where the cat is", x.foresee(1, 4), 1);
         Check.due("24: without piles", new CannonStacks().foresee(30, 5), 0);
     }
 

@@ -65,6 +65,8 @@ public final class ToldTest {
         }
         x.pile(0, 1);
         x.stack(1, 1);
+        x.pass(2);
+        Check.due("14: the greatest rust is the only ball's", x.about(1, 8), 2);
         Check.due("14: layers of a pile for one", x.about(1, 4), 1);
         Check.due("14: full ones of it", x.about(1, 5), 1);
         Check.due("14: bare ones of it", x.about(1, 6), 1);
