@@ -26,9 +26,9 @@ public final class CannonStacks {
     private static final int RUSTY = 6;
 
     private final Pyramid[] pyramids;
-    private final int[] store;
-    private final int[] fired;
-    private final int[] thrownAway;
+    private final Tally store;
+    private final Tally fired;
+    private final Tally thrownAway;
     private final Yard yard;
     // Days to come are tried out here; it is made once, so that no call makes anything new.
     private final Yard trial;
@@ -38,9 +38,9 @@ public final class CannonStacks {
         for (int i = 0; i < MOST_SIDE; i++) {
             pyramids[i] = new Pyramid(i + 1);
         }
-        store = new int[CALIBRES];
-        fired = new int[CALIBRES];
-        thrownAway = new int[CALIBRES];
+        store = new Tally();
+        fired = new Tally();
+        thrownAway = new Tally();
         yard = new Yard(pyramids[0]);
         trial = new Yard(pyramids[0]);
     }
@@ -73,8 +73,8 @@ public final class CannonStacks {
     public int give(int calibre, int many) throws IndexOutOfBoundsException, IllegalArgumentException {
         checkCalibre(calibre);
         checkArgument(many, 1, MOST_GIVEN);
-        store[calibre] += many;
-        return store[calibre];
+        store.add(calibre, many);
+        return store.of(calibre);
     }
 
     public int setRain(int rain) throws IllegalArgumentException {
@@ -97,7 +97,7 @@ public final class CannonStacks {
         checkPile(pile);
         checkArgument(many, 1, MOST_BALLS_OF_A_PILE);
         Pile stacked = yard.piles[pile];
-        if (store[stacked.calibre] < many) {
+        if (store.of(stacked.calibre) < many) {
             throw new IllegalStateException("the store has fewer");
         }
         if (stacked.spare() < many) {
@@ -106,7 +106,7 @@ public final class CannonStacks {
         for (int i = 0; i < many; i++) {
             stacked.put(0);
         }
-        store[stacked.calibre] -= many;
+        store.add(stacked.calibre, -many);
         return stacked.balls;
     }
 
@@ -121,7 +121,7 @@ public final class CannonStacks {
         for (int i = 0; i < many; i++) {
             rust += shot.takeTop();
         }
-        fired[shot.calibre] += many;
+        fired.add(shot.calibre, many);
         return rust;
     }
 
@@ -134,7 +134,7 @@ public final class CannonStacks {
         checkPile(pile);
         Pile inspected = yard.piles[pile];
         int thrown = inspected.throwAway(yard.limit);
-        thrownAway[inspected.calibre] += thrown;
+        thrownAway.add(inspected.calibre, thrown);
         return thrown;
     }
 
@@ -157,11 +157,11 @@ public final class CannonStacks {
     }
 
     public int gather() {
-        int gathered = 0;
+        int gathered = yard.loose.all();
         for (int calibre = 0; calibre < CALIBRES; calibre++) {
-            gathered += yard.loose[calibre];
-            store[calibre] += yard.loose[calibre];
-            yard.loose[calibre] = 0;
+            int many = yard.loose.of(calibre);
+            store.add(calibre, many);
+            yard.loose.add(calibre, -many);
         }
         return gathered;
     }
@@ -231,11 +231,11 @@ public final class CannonStacks {
     public int told(int calibre, int what) throws IndexOutOfBoundsException {
         checkCalibre(calibre);
         switch (what) {
-            case 0: return store[calibre];
-            case 1: return yard.loose[calibre];
+            case 0: return store.of(calibre);
+            case 1: return yard.loose.of(calibre);
             case 2: return yard.ballsOfCalibre(calibre);
-            case 3: return fired[calibre];
-            case 4: return thrownAway[calibre];
+            case 3: return fired.of(calibre);
+            case 4: return thrownAway.of(calibre);
             default: throw new IndexOutOfBoundsException("what is not 0 to 4");
         }
     }
@@ -256,12 +256,12 @@ public final class CannonStacks {
             case 0: return yard.day;
             case 1: return yard.pileCount;
             case 2: return yard.catCount;
-            case 3: return sum(store);
+            case 3: return store.all();
             case 4:
             case 5:
             case 6: return yard.ballCount(what);
-            case 7: return sum(fired);
-            case 8: return sum(thrownAway);
+            case 7: return fired.all();
+            case 8: return thrownAway.all();
             case 9: return yard.rain;
             case 10: return yard.limit;
             default: throw new IndexOutOfBoundsException("what is not 0 to 10");
@@ -406,12 +406,35 @@ public final class CannonStacks {
         return value < least || value > most;
     }
 
-    private static int sum(int[] numbers) {
-        int all = 0;
-        for (int i = 0; i < numbers.length; i++) {
-            all += numbers[i];
+    /** How many balls there are of each calibre. */
+    private static final class Tally {
+        private final int[] balls;
+
+        Tally() {
+            balls = new int[CALIBRES];
         }
-        return all;
+
+        int of(int calibre) {
+            return calibre >= 0 && calibre < balls.length ? balls[calibre] : 0;
+        }
+
+        void add(int calibre, int more) {
+            if (calibre >= 0 && calibre < balls.length) {
+                balls[calibre] += more;
+            }
+        }
+
+        int all() {
+            int all = 0;
+            for (int i = 0; i < balls.length; i++) {
+                all += balls[i];
+            }
+            return all;
+        }
+
+        void copyFrom(Tally other) {
+            System.arraycopy(other.balls, 0, balls, 0, CALIBRES);
+        }
     }
 
     /** The shape that all piles with one side share: which number lies where, and on what. */
@@ -524,22 +547,28 @@ public final class CannonStacks {
         }
 
         void put(int itsRust) {
-            if (balls >= 0 && balls < rust.length) {
-                rust[balls] = itsRust;
+            if (spare() > 0) {
+                setRust(balls, itsRust);
                 balls++;
             }
         }
 
         int takeTop() {
-            if (balls < 1 || balls > rust.length) {
+            if (balls < 1) {
                 return 0;
             }
             balls--;
-            return rust[balls];
+            return rustOf(balls);
         }
 
         int rustOf(int ball) {
             return ball >= 0 && ball < rust.length ? rust[ball] : 0;
+        }
+
+        private void setRust(int ball, int itsRust) {
+            if (ball >= 0 && ball < rust.length) {
+                rust[ball] = itsRust;
+            }
         }
 
         boolean isCovered(int ball) {
@@ -579,7 +608,7 @@ public final class CannonStacks {
         int rustyBalls(int limit) {
             int rusty = 0;
             for (int ball = 0; ball < balls; ball++) {
-                if (rust[ball] >= limit) {
+                if (rustOf(ball) >= limit) {
                     rusty++;
                 }
             }
@@ -589,7 +618,7 @@ public final class CannonStacks {
         int greatestRust() {
             int greatest = 0;
             for (int ball = 0; ball < balls; ball++) {
-                greatest = Math.max(greatest, rust[ball]);
+                greatest = Math.max(greatest, rustOf(ball));
             }
             return greatest;
         }
@@ -597,7 +626,7 @@ public final class CannonStacks {
         int allRust() {
             int all = 0;
             for (int ball = 0; ball < balls; ball++) {
-                all += rust[ball];
+                all += rustOf(ball);
             }
             return all;
         }
@@ -606,8 +635,9 @@ public final class CannonStacks {
             int gone = 0;
             for (int ball = 0; ball < balls; ball++) {
                 if (!isCovered(ball)) {
-                    int less = Math.min(rust[ball], SCOURED_RUST);
-                    rust[ball] -= less;
+                    int before = rustOf(ball);
+                    int less = Math.min(before, SCOURED_RUST);
+                    setRust(ball, before - less);
                     gone += less;
                 }
             }
@@ -617,8 +647,9 @@ public final class CannonStacks {
         int throwAway(int limit) {
             int kept = 0;
             for (int ball = 0; ball < balls; ball++) {
-                if (rust[ball] < limit) {
-                    rust[kept] = rust[ball];
+                int itsRust = rustOf(ball);
+                if (itsRust < limit) {
+                    setRust(kept, itsRust);
                     kept++;
                 }
             }
@@ -630,7 +661,7 @@ public final class CannonStacks {
         void rustForADay(int rain) {
             for (int ball = 0; ball < balls; ball++) {
                 int more = isCovered(ball) ? rain / 2 : 1 + rain;
-                rust[ball] = Math.min(rust[ball] + more, MOST_RUST);
+                setRust(ball, Math.min(rustOf(ball) + more, MOST_RUST));
             }
         }
     }
@@ -652,11 +683,7 @@ public final class CannonStacks {
         }
 
         void jump(int piles) {
-            if (on == ON_THE_GROUND || piles < 1) {
-                on = 0;
-            } else {
-                on = (on + leap) % piles;
-            }
+            on = on == ON_THE_GROUND || piles < 1 ? 0 : Math.floorMod(on + leap, piles);
         }
     }
 
@@ -664,7 +691,7 @@ public final class CannonStacks {
     private static final class Yard {
         final Pile[] piles;
         final Cat[] cats;
-        final int[] loose;
+        final Tally loose;
         int pileCount;
         int catCount;
         int day;
@@ -680,7 +707,7 @@ public final class CannonStacks {
             for (int i = 0; i < MOST_CATS; i++) {
                 cats[i] = new Cat();
             }
-            loose = new int[CALIBRES];
+            loose = new Tally();
             limit = FIRST_LIMIT;
         }
 
@@ -693,7 +720,7 @@ public final class CannonStacks {
             for (int i = 0; i < catCount; i++) {
                 cats[i].copyFrom(other.cats[i]);
             }
-            System.arraycopy(other.loose, 0, loose, 0, CALIBRES);
+            loose.copyFrom(other.loose);
             day = other.day;
             rain = other.rain;
             limit = other.limit;
@@ -728,7 +755,7 @@ public final class CannonStacks {
                 return 0;
             }
             landed.takeTop();
-            loose[landed.calibre]++;
+            loose.add(landed.calibre, 1);
             jumper.rolledOff++;
             return 1;
         }
@@ -745,7 +772,7 @@ public final class CannonStacks {
 
         int ballCount(int what) {
             if (what == LOOSE) {
-                return sum(loose);
+                return loose.all();
             }
             int balls = 0;
             for (int i = 0; i < pileCount; i++) {
