@@ -211,6 +211,14 @@ public final class EdgesTest {
             Check.due("scour(0)", x.scour(0), 3);
             dueRust(x, 0, 3, 3, 3, 3, 3, 3, 3, 3, 3, 3, 3, 3, 3, 6);
         });
+        Check.test("9: those that were fired or thrown away count no more", () -> {
+            CannonStacks x = Bastions.withRust(3, 5, 4, 3);
+            x.fire(0, 1);
+            Check.due("scour(0)", x.scour(0), 6);
+            CannonStacks y = Bastions.withRust(3, 9, 8, 5);
+            y.inspect(0);
+            Check.due("scour(0)", y.scour(0), 3);
+        });
         Check.test("9: the only ball", () -> {
             CannonStacks x = Bastions.withRust(1, 2);
             Check.due("scour(0)", x.scour(0), 2);
@@ -411,6 +419,15 @@ public final class EdgesTest {
             CannonStacks x = Bastions.withRust(2, 9, 9, 0, 0);
             Check.due("about(0, 9)", x.about(0, 9), 18);
             Check.due("about(0, 8)", x.about(0, 8), 9);
+        });
+        Check.test("14: those that were fired or thrown away count no more", () -> {
+            CannonStacks x = Bastions.withRust(3, 9, 8, 5, 4);
+            x.inspect(0);
+            dueAbout(x, 0, 0, 3, 2, 14, 1, 0, 2, 0, 5, 9);
+            x.fire(0, 1);
+            dueAbout(x, 0, 0, 3, 1, 14, 1, 0, 1, 0, 5, 5);
+            x.fire(0, 1);
+            dueAbout(x, 0, 0, 3, 0, 14, 0, 0, 0, 0, 0, 0);
         });
         Check.test("14: calibre 4 of the pile 5", () -> {
             CannonStacks x = new CannonStacks();

@@ -119,6 +119,34 @@ public final class TermsTest {
         Check.due("covered, " + ball + " of " + balls, x.ball(0, ball, 4), on > 0 ? 1 : 0);
     }
 
+    /** A ball at (row, place) of a layer is lain on from the layer above at (row - 1 or row, place - 1 or place). */
+    private static void ballsOnEach(int side) {
+        int room = Bastions.onePile(side, 0).about(0, 3);
+        for (int balls = 1; balls <= room; balls++) {
+            CannonStacks x = Bastions.onePile(side, balls);
+            int bare = 0;
+            int ball = 0;
+            int nextLayer = 0;
+            for (int layer = 0; layer < side; layer++) {
+                int width = side - layer;
+                nextLayer += width * width;
+                for (; ball < Math.min(balls, nextLayer); ball++) {
+                    int place = ball - (nextLayer - width * width);
+                    int on = 0;
+                    for (int above = nextLayer; above < Math.min(balls, nextLayer + (width - 1) * (width - 1)); above++) {
+                        int down = place / width - (above - nextLayer) / (width - 1);
+                        int along = place % width - (above - nextLayer) % (width - 1);
+                        on += (down == 0 || down == 1) && (along == 0 || along == 1) ? 1 : 0;
+                    }
+                    Check.due("balls on " + ball + " of " + balls, x.ball(0, ball, 5), on);
+                    Check.due("covered: " + ball + " of " + balls, x.ball(0, ball, 4), on > 0 ? 1 : 0);
+                    bare += on == 0 ? 1 : 0;
+                }
+            }
+            Check.due("bare ones of " + balls, x.about(0, 6), bare);
+        }
+    }
+
     private static void balls() {
         Check.test("balls: the first one of a layer lies on those at rows and places 0 and 1", () -> {
             CannonStacks x = Bastions.onePile(4, 17);
@@ -168,6 +196,10 @@ public final class TermsTest {
             dueOn(3, 14, 0, 1);
             dueOn(3, 14, 4, 4);
         });
+        for (int side = 1; side <= 6; side++) {
+            int its = side;
+            Check.test("balls: how many on each one, however many there are, side " + side, () -> ballsOnEach(its));
+        }
         Check.test("balls: none on the last one, nor on a single one", () -> {
             dueOn(6, 91, 90, 0);
             dueOn(1, 1, 0, 0);
