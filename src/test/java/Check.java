@@ -50,6 +50,14 @@ final class Check {
         }
     }
 
+    /** The pile has just these balls, told by their rust. */
+    static void dueRust(CannonStacks x, int pile, int... want) {
+        due("balls of the pile " + pile, x.about(pile, 2), want.length);
+        for (int ball = 0; ball < want.length; ball++) {
+            due("rust of the ball " + ball, x.ball(pile, ball, 0), want[ball]);
+        }
+    }
+
     /** The call throws just this class, and changes nothing that the digest tells. */
     static void refused(CannonStacks x, String call, Class<?> want, Runnable run) {
         long before = x.digest();

@@ -22,17 +22,6 @@ public final class DaysTest {
         Check.end();
     }
 
-    private static CannonStacks withPile(int side, int balls) {
-        CannonStacks x = new CannonStacks();
-        x.give(0, 99);
-        x.give(0, 99);
-        x.pile(0, side);
-        if (balls > 0) {
-            x.stack(0, balls);
-        }
-        return x;
-    }
-
     private static void pass() {
         CannonStacks x = new CannonStacks();
         for (int bad : new int[] {0, 61, -1, MIN, MAX}) {
@@ -48,7 +37,7 @@ public final class DaysTest {
     private static void rustByRain() {
         int[] coveredByRain = {0, 0, 1, 1};
         for (int rain = 0; rain <= 3; rain++) {
-            CannonStacks x = withPile(2, 5);
+            CannonStacks x = Bastions.onePile(2, 5);
             x.setRain(rain);
             for (int days = 1; days <= 12; days++) {
                 Check.due("22: pass(1)", x.pass(1), 0);
@@ -61,7 +50,7 @@ public final class DaysTest {
     }
 
     private static void catsOnPiles() {
-        CannonStacks x = withPile(3, 9);
+        CannonStacks x = Bastions.onePile(3, 9);
         x.cat(1);
         Check.due("22: none rolls off full layers", x.pass(10), 0);
         Check.due("22: the only pile", x.mouser(0, 1), 0);
@@ -73,7 +62,7 @@ public final class DaysTest {
         Check.due("22: loose ones", x.count(4), 10);
         Check.due("22: an empty pile loses none", x.pass(2), 0);
 
-        CannonStacks y = withPile(1, 1);
+        CannonStacks y = Bastions.onePile(1, 1);
         for (int i = 0; i < 5; i++) {
             y.pile(1, 2);
         }
@@ -87,7 +76,7 @@ public final class DaysTest {
     }
 
     private static void catsOneBehindTheOther() {
-        CannonStacks x = withPile(3, 8);
+        CannonStacks x = Bastions.onePile(3, 8);
         x.pile(0, 2);
         x.stack(1, 1);
         x.cat(1);
@@ -105,7 +94,7 @@ public final class DaysTest {
     }
 
     private static void until() {
-        CannonStacks x = withPile(2, 0);
+        CannonStacks x = Bastions.onePile(2, 0);
         for (int bad : new int[] {-1, 1, MIN, MAX}) {
             Check.refused(x, "23: until(" + bad + ")", Check.INDEX, () -> x.until(bad));
         }
@@ -127,10 +116,10 @@ public final class DaysTest {
     }
 
     private static void untilWithCats() {
-        CannonStacks x = withPile(6, 30);
+        CannonStacks x = Bastions.onePile(6, 30);
         x.cat(1);
         Check.due("23: 30 balls roll off, but get rusty before", x.until(0), 6);
-        CannonStacks y = withPile(6, 3);
+        CannonStacks y = Bastions.onePile(6, 3);
         y.cat(1);
         Check.due("23: 3 balls roll off before", y.until(0), -1);
         y.setLimit(3);
@@ -138,7 +127,7 @@ public final class DaysTest {
         y.setLimit(2);
         Check.due("23: one is left behind two days", y.until(0), 2);
         // By the scouring of a covered pile's top, the first rusty one may come late.
-        CannonStacks z = withPile(2, 4);
+        CannonStacks z = Bastions.onePile(2, 4);
         z.pass(5);
         z.stack(0, 1);
         z.setLimit(9);
@@ -149,7 +138,7 @@ public final class DaysTest {
     }
 
     private static void foresee() {
-        CannonStacks x = withPile(3, 11);
+        CannonStacks x = Bastions.onePile(3, 11);
         x.pile(0, 3);
         x.stack(1, 8);
         x.cat(1);
@@ -162,7 +151,7 @@ public final class DaysTest {
         }
         long before = x.digest();
         for (int days : new int[] {1, 2, 3, 6, 30}) {
-            CannonStacks y = withPile(3, 11);
+            CannonStacks y = Bastions.onePile(3, 11);
             y.pile(0, 3);
             y.stack(1, 8);
             y.cat(1);
@@ -186,7 +175,7 @@ public final class DaysTest {
     }
 
     private static void would() {
-        CannonStacks x = withPile(3, 0);
+        CannonStacks x = Bastions.onePile(3, 0);
         for (int bad : new int[] {-1, 1, MIN, MAX}) {
             Check.refused(x, "25: would(" + bad + ")", Check.INDEX, () -> x.would(bad));
         }
@@ -207,7 +196,7 @@ public final class DaysTest {
         x.setRain(3);
         x.pass(1);
         Check.due("25: all rusty", x.would(0), 0);
-        CannonStacks y = withPile(3, 14);
+        CannonStacks y = Bastions.onePile(3, 14);
         y.pass(6);
         Check.due("25: the top one is rusty", y.would(0), 2);
         y.inspect(0);

@@ -32,13 +32,6 @@ public final class EdgesTest {
         Check.end();
     }
 
-    private static void dueRust(CannonStacks x, int pile, int... want) {
-        Check.due("balls of the pile " + pile, x.about(pile, 2), want.length);
-        for (int ball = 0; ball < want.length; ball++) {
-            Check.due("rust of the ball " + ball, x.ball(pile, ball, 0), want[ball]);
-        }
-    }
-
     private static void bastion() {
         Check.test("1: without piles and cats, on the day 0", () -> {
             CannonStacks x = new CannonStacks();
@@ -93,12 +86,12 @@ public final class EdgesTest {
             CannonStacks x = Bastions.onePile(2, 1);
             x.pass(1);
             x.setRain(3);
-            dueRust(x, 0, 1);
+            Check.dueRust(x, 0, 1);
             x.pass(1);
-            dueRust(x, 0, 5);
+            Check.dueRust(x, 0, 5);
             x.setRain(0);
             x.pass(1);
-            dueRust(x, 0, 6);
+            Check.dueRust(x, 0, 6);
         });
         Check.test("6: the limit of 1 and 9, and the same again", () -> {
             CannonStacks x = new CannonStacks();
@@ -148,13 +141,13 @@ public final class EdgesTest {
         Check.test("7: behind those that lie there, without rust", () -> {
             CannonStacks x = Bastions.withRust(2, 4, 2);
             Check.due("stack(0, 2)", x.stack(0, 2), 4);
-            dueRust(x, 0, 4, 2, 0, 0);
+            Check.dueRust(x, 0, 4, 2, 0, 0);
         });
         Check.test("7: where rusty ones lay before", () -> {
             CannonStacks x = Bastions.withRust(2, 9, 9, 9);
             x.fire(0, 2);
             x.stack(0, 2);
-            dueRust(x, 0, 9, 0, 0);
+            Check.dueRust(x, 0, 9, 0, 0);
         });
     }
 
@@ -180,7 +173,7 @@ public final class EdgesTest {
         Check.test("8: from the top on, the others stay", () -> {
             CannonStacks x = Bastions.withRust(3, 8, 5, 1);
             Check.due("fire(0, 2)", x.fire(0, 2), 6);
-            dueRust(x, 0, 8);
+            Check.dueRust(x, 0, 8);
         });
         Check.test("8: fired ones are neither loose nor thrown away", () -> {
             CannonStacks x = Bastions.withRust(3, 8, 5, 1);
@@ -196,20 +189,20 @@ public final class EdgesTest {
         Check.test("9: less than 3, just 3, and more", () -> {
             CannonStacks x = Bastions.withRust(3, 9, 4, 3, 2, 1, 0);
             Check.due("scour(0)", x.scour(0), 3 + 3 + 3 + 2 + 1);
-            dueRust(x, 0, 6, 1, 0, 0, 0, 0);
+            Check.dueRust(x, 0, 6, 1, 0, 0, 0, 0);
         });
         Check.test("9: covered ones are left", () -> {
             CannonStacks x = Bastions.withRust(3, 9, 8, 7, 6, 5, 4, 3, 2, 1);
             x.stack(0, 1);
             Check.due("scour(0)", x.scour(0), 3 + 3 + 3 + 2 + 1);
-            dueRust(x, 0, 9, 8, 4, 6, 5, 1, 0, 0, 0, 0);
+            Check.dueRust(x, 0, 9, 8, 4, 6, 5, 1, 0, 0, 0, 0);
         });
         Check.test("9: a full pile, its top one alone", () -> {
             CannonStacks x = Bastions.onePile(3, 14);
             x.setRain(2);
             x.pass(3);
             Check.due("scour(0)", x.scour(0), 3);
-            dueRust(x, 0, 3, 3, 3, 3, 3, 3, 3, 3, 3, 3, 3, 3, 3, 6);
+            Check.dueRust(x, 0, 3, 3, 3, 3, 3, 3, 3, 3, 3, 3, 3, 3, 3, 6);
         });
         Check.test("9: those that were fired or thrown away count no more", () -> {
             CannonStacks x = Bastions.withRust(3, 5, 4, 3);
@@ -222,7 +215,7 @@ public final class EdgesTest {
         Check.test("9: the only ball", () -> {
             CannonStacks x = Bastions.withRust(1, 2);
             Check.due("scour(0)", x.scour(0), 2);
-            dueRust(x, 0, 0);
+            Check.dueRust(x, 0, 0);
         });
         Check.test("9: other piles are left", () -> {
             CannonStacks x = Bastions.withRust(2, 5);
@@ -230,8 +223,8 @@ public final class EdgesTest {
             x.stack(1, 1);
             x.pass(2);
             Check.due("scour(1)", x.scour(1), 2);
-            dueRust(x, 0, 7);
-            dueRust(x, 1, 0);
+            Check.dueRust(x, 0, 7);
+            Check.dueRust(x, 1, 0);
         });
     }
 
@@ -255,7 +248,7 @@ public final class EdgesTest {
         Check.test("11: to a full one", () -> {
             CannonStacks x = toShift(2, 5, 3, 2);
             Check.due("shift(0, 1)", x.shift(0, 1), 0);
-            dueRust(x, 0, 3, 2);
+            Check.dueRust(x, 0, 3, 2);
         });
         Check.test("11: both full", () -> {
             CannonStacks x = Bastions.onePile(1, 1);
@@ -266,32 +259,32 @@ public final class EdgesTest {
         Check.test("11: room for one", () -> {
             CannonStacks x = toShift(2, 4, 3, 2);
             Check.due("shift(0, 1)", x.shift(0, 1), 1);
-            dueRust(x, 0, 3);
-            dueRust(x, 1, 0, 0, 0, 0, 2);
+            Check.dueRust(x, 0, 3);
+            Check.dueRust(x, 1, 0, 0, 0, 0, 2);
         });
         Check.test("11: room for one, a side of 1", () -> {
             CannonStacks x = toShift(1, 0, 3, 2);
             Check.due("shift(0, 1)", x.shift(0, 1), 1);
-            dueRust(x, 1, 2);
+            Check.dueRust(x, 1, 2);
         });
         Check.test("11: room for just so many", () -> {
             CannonStacks x = toShift(2, 2, 7, 6, 5);
             Check.due("shift(0, 1)", x.shift(0, 1), 3);
-            dueRust(x, 0);
-            dueRust(x, 1, 0, 0, 5, 6, 7);
+            Check.dueRust(x, 0);
+            Check.dueRust(x, 1, 0, 0, 5, 6, 7);
         });
         Check.test("11: room for one fewer", () -> {
             CannonStacks x = toShift(2, 3, 7, 6, 5);
             Check.due("shift(0, 1)", x.shift(0, 1), 2);
-            dueRust(x, 0, 7);
-            dueRust(x, 1, 0, 0, 0, 5, 6);
+            Check.dueRust(x, 0, 7);
+            Check.dueRust(x, 1, 0, 0, 0, 5, 6);
         });
         Check.test("11: in the turned order, and back again", () -> {
             CannonStacks x = toShift(3, 0, 9, 4, 2, 1);
             Check.due("shift(0, 1)", x.shift(0, 1), 4);
-            dueRust(x, 1, 1, 2, 4, 9);
+            Check.dueRust(x, 1, 1, 2, 4, 9);
             Check.due("shift(1, 0)", x.shift(1, 0), 4);
-            dueRust(x, 0, 9, 4, 2, 1);
+            Check.dueRust(x, 0, 9, 4, 2, 1);
         });
         Check.test("11: 91 balls at once", () -> {
             CannonStacks x = Bastions.onePile(6, 91);

@@ -1,8 +1,11 @@
+import java.io.IOException;
 import java.lang.reflect.Constructor;
 import java.lang.reflect.Executable;
 import java.lang.reflect.Field;
 import java.lang.reflect.Method;
 import java.lang.reflect.Modifier;
+import java.nio.file.Files;
+import java.nio.file.Path;
 import java.util.ArrayList;
 import java.util.Arrays;
 import java.util.Collections;
@@ -40,10 +43,66 @@ public final class FaceTest {
         "long digest()",
     };
 
+    /** The same as the document writes it, with the names of what is handed over, and its headings. */
+    private static final String WRITTEN = """
+        public final class CannonStacks
+        public CannonStacks()
+        // ---- the bastion
+        public int pile(int calibre, int side) throws IndexOutOfBoundsException, IllegalArgumentException, IllegalStateException
+        public int cat(int leap) throws IllegalArgumentException, IllegalStateException
+        public int give(int calibre, int many) throws IndexOutOfBoundsException, IllegalArgumentException
+        public int setRain(int rain) throws IllegalArgumentException
+        public int setLimit(int limit) throws IllegalArgumentException
+        // ---- work
+        public int stack(int pile, int many) throws IndexOutOfBoundsException, IllegalArgumentException, IllegalStateException
+        public int fire(int pile, int many) throws IndexOutOfBoundsException, IllegalArgumentException, IllegalStateException
+        public int scour(int pile) throws IndexOutOfBoundsException
+        public int inspect(int pile) throws IndexOutOfBoundsException
+        public int shift(int from, int to) throws IndexOutOfBoundsException, IllegalArgumentException
+        public int gather()
+        public int chase(int cat) throws IndexOutOfBoundsException
+        // ---- what there is
+        public int about(int pile, int what) throws IndexOutOfBoundsException
+        public int ball(int pile, int ball, int what) throws IndexOutOfBoundsException
+        public int at(int pile, int layer, int row, int place) throws IndexOutOfBoundsException
+        public int told(int calibre, int what) throws IndexOutOfBoundsException
+        public int mouser(int cat, int what) throws IndexOutOfBoundsException
+        public int count(int what) throws IndexOutOfBoundsException
+        // ---- pyramids
+        public int room(int side) throws IllegalArgumentException
+        public int side(int many) throws IllegalArgumentException
+        // ---- days and what would be
+        public int pass(int days) throws IllegalArgumentException
+        public int until(int pile) throws IndexOutOfBoundsException
+        public int foresee(int days, int what) throws IllegalArgumentException, IndexOutOfBoundsException
+        public int would(int pile) throws IndexOutOfBoundsException
+        public int advise()
+        public double mean()
+        public long digest()
+        """;
+
     private FaceTest() {
     }
 
-    public static void main(String[] args) {
+    public static void main(String[] args) throws IOException {
+        written();
+        compiled();
+        Check.end();
+    }
+
+    /** What the program's file says itself, in the document's order. */
+    private static void written() throws IOException {
+        List<String> got = new ArrayList<>();
+        for (String line : Files.readAllLines(Path.of("src/main/java/CannonStacks.java"))) {
+            String said = line.strip();
+            if (said.startsWith("public ") || said.startsWith("// ----")) {
+                got.add(said.endsWith(" {") ? said.substring(0, said.length() - 2) : said);
+            }
+        }
+        Check.same("face: as it is written", got, WRITTEN.lines().toList());
+    }
+
+    private static void compiled() {
         Class<?> face = CannonStacks.class;
         Check.due("face: a public final class", face.getModifiers(), Modifier.PUBLIC | Modifier.FINAL);
         List<String> hidden = new ArrayList<>();
@@ -81,7 +140,6 @@ public final class FaceTest {
                 }
             }
         }
-        Check.end();
     }
 
     private static String told(Executable method) {

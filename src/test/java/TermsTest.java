@@ -17,13 +17,6 @@ public final class TermsTest {
         Check.end();
     }
 
-    private static void dueRust(CannonStacks x, int pile, int... want) {
-        Check.due("balls of the pile " + pile, x.about(pile, 2), want.length);
-        for (int ball = 0; ball < want.length; ball++) {
-            Check.due("rust of the ball " + ball, x.ball(pile, ball, 0), want[ball]);
-        }
-    }
-
     private static void store() {
         Check.test("store: none at first", () -> {
             for (int calibre = 0; calibre <= 4; calibre++) {
@@ -260,7 +253,7 @@ public final class TermsTest {
         CannonStacks x = Bastions.onePile(2, 5);
         x.setRain(rain);
         x.pass(days);
-        dueRust(x, 0, covered, covered, covered, covered, bare);
+        Check.dueRust(x, 0, covered, covered, covered, covered, bare);
     }
 
     private static void rustOfADay() {
@@ -282,15 +275,15 @@ public final class TermsTest {
             x.pass(8);
             x.fire(0, 1);
             x.pass(1);
-            dueRust(x, 0, 9, 9, 9, 9);
+            Check.dueRust(x, 0, 9, 9, 9, 9);
         });
         Check.test("day, rust: before the cats, so covered by the one that rolls off then", () -> {
             CannonStacks x = Bastions.onePile(3, 10);
             x.cat(1);
             Check.due("pass(1)", x.pass(1), 1);
-            dueRust(x, 0, 0, 0, 1, 0, 0, 1, 1, 1, 1);
+            Check.dueRust(x, 0, 0, 0, 1, 0, 0, 1, 1, 1, 1);
             Check.due("pass(1)", x.pass(1), 0);
-            dueRust(x, 0, 1, 1, 2, 1, 1, 2, 2, 2, 2);
+            Check.dueRust(x, 0, 1, 1, 2, 1, 1, 2, 2, 2, 2);
         });
         Check.test("day, rust: each pile has it", () -> {
             CannonStacks x = new CannonStacks();
@@ -301,9 +294,9 @@ public final class TermsTest {
                 x.stack(pile, pile == 0 ? 5 : 1);
             }
             x.pass(4);
-            dueRust(x, 0, 0, 0, 0, 0, 4);
+            Check.dueRust(x, 0, 0, 0, 0, 0, 4);
             for (int pile = 1; pile < 6; pile++) {
-                dueRust(x, pile, 4);
+                Check.dueRust(x, pile, 4);
             }
         });
         Check.test("day: it is 1 greater, without piles, balls and cats too", () -> {
@@ -458,7 +451,7 @@ public final class TermsTest {
             CannonStacks x = Bastions.withRust(3, 5, 3, 1);
             x.cat(1);
             x.pass(1);
-            dueRust(x, 0, 6, 4);
+            Check.dueRust(x, 0, 6, 4);
         });
     }
 
@@ -486,7 +479,7 @@ public final class TermsTest {
             Check.dueMean("mean()", x.mean(), 0.0);
             x.gather();
             x.stack(0, 1);
-            dueRust(x, 0, 0);
+            Check.dueRust(x, 0, 0);
         });
         Check.test("loose balls: they have no rust on the ground, however long they lie there", () -> {
             CannonStacks x = Bastions.onePile(3, 1);
@@ -514,31 +507,31 @@ public final class TermsTest {
         Check.test("inspecting: those at the bottom alone", () -> {
             CannonStacks x = Bastions.withRust(3, 9, 6, 5, 2, 0);
             Check.due("inspect(0)", x.inspect(0), 2);
-            dueRust(x, 0, 5, 2, 0);
+            Check.dueRust(x, 0, 5, 2, 0);
         });
         Check.test("inspecting: those at the top alone", () -> {
             CannonStacks x = turned(9, 6, 5, 2, 0);
             Check.due("inspect(1)", x.inspect(1), 2);
-            dueRust(x, 1, 0, 2, 5);
+            Check.dueRust(x, 1, 0, 2, 5);
         });
         Check.test("inspecting: one between the others", () -> {
             CannonStacks x = Bastions.withRust(3, 8, 4, 2);
             x.pile(0, 3);
             x.shift(0, 1);
             x.scour(1);
-            dueRust(x, 1, 0, 1, 5);
+            Check.dueRust(x, 1, 0, 1, 5);
             x.stack(1, 1);
             x.setLimit(5);
             Check.due("inspect(1)", x.inspect(1), 1);
-            dueRust(x, 1, 0, 1, 0);
+            Check.dueRust(x, 1, 0, 1, 0);
         });
         Check.test("inspecting: rusty ones between the others and at the top", () -> {
             // Bare balls rust, covered ones don't: 0, 1, 3 and 4 are covered by 9 as long as it lies there.
             CannonStacks x = Bastions.onePile(3, 10);
             x.pass(6);
-            dueRust(x, 0, 0, 0, 6, 0, 0, 6, 6, 6, 6, 6);
+            Check.dueRust(x, 0, 0, 0, 6, 0, 0, 6, 6, 6, 6, 6);
             Check.due("inspect(0)", x.inspect(0), 6);
-            dueRust(x, 0, 0, 0, 0, 0);
+            Check.dueRust(x, 0, 0, 0, 0, 0);
         });
         Check.test("inspecting: the others may be covered otherwise", () -> {
             CannonStacks x = Bastions.onePile(2, 5);
@@ -560,7 +553,7 @@ public final class TermsTest {
             Check.due("inspect(0)", x.inspect(0), 2);
             x.setLimit(1);
             Check.due("inspect(0)", x.inspect(0), 2);
-            dueRust(x, 0, 0);
+            Check.dueRust(x, 0, 0);
         });
     }
 
